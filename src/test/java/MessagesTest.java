@@ -223,8 +223,14 @@ public final class MessagesTest {
         Checks.bring(x, "Vt0s1a0b0N", "Vt0s1a1b0N", "Tt0s1a0l0b0N", "Tt0s1a1l0b0N");
         Checks.bring(x, "Ot0s0N", "Vt0s0a0b0Y", "Pt0s0", "Vt0s0a0b0N", "Vt0s0a1b0N");
         Checks.due("the acceptor has the later", x.taken(0, 0, 0, false), 0);
-        Checks.bring(x, "Tt0s0a0l1b0Y", "Tt0s0a0l1b0N", "Tt0s0a1l1b0N");
+        Checks.bringTwin(x, "Tt0s0a0l1b0Y");
+        Checks.bringTwin(x, "Tt0s0a0l1b0N");
+        Checks.bringTwin(x, "Tt0s0a1l1b0N");
         Checks.due("one YES and one NO", Checks.known(x, 1, 0), "-");
+        x.up(Checks.LEADER, 1, false);
+        x.up(Checks.LEADER, 1, true);
+        Checks.bring(x, "Tt0s0a0l1b0N", "Tt0s0a0l1b0Y", "Tt0s0a1l1b0N");
+        Checks.due("NO twice", Checks.known(x, 1, 0), "N");
     }
 
     private static void decidedNeedsOneBallot() {

@@ -55,6 +55,12 @@ public final class ValueLockStateTest {
         Checks.due("value", x.value(0, 0), 99);
         Checks.due("value", x.value(0, 1), 98);
         Checks.due("state of the first", x.state(0, 0), 3);
+        x.begin();
+        x.write(2, 0, 1, 0);
+        x.request(2);
+        Checks.settle(x);
+        Checks.due("a key not written keeps its value", x.value(0, 0), 99);
+        Checks.due("a key written with 0", x.value(0, 1), 0);
         x.up(Checks.STORE, 0, false);
         Checks.due("value of a store that is down", x.value(0, 0), 99);
     }
