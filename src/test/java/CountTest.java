@@ -1,18 +1,24 @@
 /** Promise 16: count. */
 public final class CountTest {
     public static void main(String[] args) {
-        PaxosCommit x = new PaxosCommit(1);
+        each();
+        sumsOfThoseUp();
+        fullNet();
+        Checks.end();
+    }
+
+    private static void each() {
+        Checks.about("count: 0 MESSAGES in the NET, .. 2 TRANSACTIONS, 3 n. what 0 .. 6");
+        Run x = new Run(1);
         int[] first = {0, 0, 0, 3, 7, 7, 3};
         for (int what = 0; what < 7; what++) {
             Checks.due("at first " + what, x.count(what), first[what]);
         }
-        x.up(Checks.STORE, 0, false);
-        x.up(Checks.STORE, 2, false);
-        x.up(Checks.ACCEPTOR, 1, false);
-        x.up(Checks.LEADER, 0, false);
-        Checks.due("stores", x.count(4), 2);
-        Checks.due("acceptors", x.count(5), 5);
-        Checks.due("leaders", x.count(6), 2);
+        int[] ofOne = {0, 0, 0, 1, 7, 1, 3};
+        Run y = new Run(0);
+        for (int what = 0; what < 7; what++) {
+            Checks.due("at first, one acceptor, " + what, y.count(what), ofOne[what]);
+        }
         x.begin();
         x.begin();
         Checks.due("transactions", x.count(2), 2);
@@ -22,12 +28,31 @@ public final class CountTest {
         Checks.due("n", x.count(3), 3);
         Checks.dueThrow("below", Checks.ARGUMENT, () -> x.count(-1));
         Checks.dueThrow("above", Checks.ARGUMENT, () -> x.count(7));
-        fullNet();
-        Checks.end();
+    }
+
+    private static void sumsOfThoseUp() {
+        Checks.about("count: 4 the STORES that are UP as a sum of 2 to their numbers,"
+            + " 5 the ACCEPTORS, 6 the LEADERS");
+        int[] sizes = {3, 3, 2};
+        for (int kind = 0; kind < 3; kind++) {
+            int greatest = (1 << sizes[kind]) - 1;
+            for (int sum = 0; sum <= greatest; sum++) {
+                Run x = new Run(1);
+                for (int which = 0; which < sizes[kind]; which++) {
+                    x.up(kind, which, (sum >> which & 1) == 1);
+                }
+                Checks.due("sum of kind " + kind, x.count(4 + kind), sum);
+                Checks.due("the next kind", x.count(4 + (kind + 1) % 3), kind == 1 ? 3 : 7);
+            }
+        }
+        Run y = new Run(0);
+        y.up(Checks.ACCEPTOR, 0, false);
+        Checks.due("none of one", y.count(5), 0);
     }
 
     private static void fullNet() {
-        PaxosCommit x = Checks.requested(1, 1);
+        Checks.about("count: 0 MESSAGES in the NET, 1 how many were lost as it was full");
+        Run x = Checks.requested(1, 1);
         for (int i = 0; i < 19; i++) {
             x.take(0, 0);
         }
@@ -36,7 +61,7 @@ public final class CountTest {
         x.take(0, 0);
         Checks.due("messages", x.count(0), 60);
         Checks.due("lost", x.count(1), 1);
-        Checks.due("the last that went in", Checks.textOf(x, 59), "At0a1b40");
+        Checks.due("the last that went in", x.textOf(59), "At0a1b40");
         x.take(0, 0);
         Checks.due("messages", x.count(0), 60);
         Checks.due("lost", x.count(1), 4);

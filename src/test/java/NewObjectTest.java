@@ -8,16 +8,18 @@ public final class NewObjectTest {
     }
 
     private static void acceptorsByF() {
+        Checks.about("PaxosCommit(int f): f 0: one ACCEPTOR, else three");
         int[] fs = {0, 1, 2, 3, -1, Integer.MAX_VALUE, Integer.MIN_VALUE};
         for (int f : fs) {
-            PaxosCommit x = new PaxosCommit(f);
+            Run x = new Run(f);
             Checks.due("n for f " + f, x.count(3), f == 0 ? 1 : 3);
             Checks.due("acceptors up for f " + f, x.count(5), f == 0 ? 1 : 7);
         }
     }
 
     private static void allIsAsAtFirst() {
-        PaxosCommit x = new PaxosCommit(1);
+        Checks.about("what is so at first");
+        Run x = new Run(1);
         x.begin();
         for (int s = 0; s < 3; s++) {
             Checks.due("state", x.state(0, s), 0);
@@ -33,13 +35,14 @@ public final class NewObjectTest {
         Checks.due("messages", x.count(0), 0);
         Checks.due("stores up", x.count(4), 7);
         Checks.due("leaders up", x.count(6), 3);
-        Checks.due("leader 0 knows", Checks.known(x, 0, 0), "-");
-        Checks.due("leader 1 knows", Checks.known(x, 1, 0), "-");
+        Checks.due("leader 0 knows", x.known(0, 0), "-");
+        Checks.due("leader 1 knows", x.known(1, 0), "-");
     }
 
     private static void objectsAreApart() {
-        PaxosCommit x = new PaxosCommit(1);
-        PaxosCommit y = new PaxosCommit(0);
+        Checks.about("a new object has nothing of another");
+        Run x = new Run(1);
+        Run y = new Run(0);
         x.begin();
         x.write(0, 0, 0, 1);
         x.request(0);

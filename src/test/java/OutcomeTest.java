@@ -9,14 +9,16 @@ public final class OutcomeTest {
     }
 
     private static void commit() {
-        PaxosCommit x = Checks.requested(1, 3);
+        Checks.about("outcome: 0 COMMIT");
+        Run x = Checks.requested(1, 3);
         Checks.settle(x);
         Checks.due("leader 0", x.outcome(0, 0), 0);
         Checks.due("leader 1", x.outcome(1, 0), 0);
     }
 
     private static void abort() {
-        PaxosCommit x = Checks.requested(1, 3);
+        Checks.about("outcome: 1 ABORT");
+        Run x = Checks.requested(1, 3);
         x.up(Checks.STORE, 2, false);
         x.up(Checks.STORE, 2, true);
         Checks.settle(x);
@@ -26,7 +28,8 @@ public final class OutcomeTest {
     }
 
     private static void eachLeaderForItself() {
-        PaxosCommit x = Checks.requested(0, 1);
+        Checks.about("outcome: What a LEADER KNOWS");
+        Run x = Checks.requested(0, 1);
         x.begin();
         Checks.bring(x, "Pt0s0", "Vt0s0a0b0Y", "Tt0s0a0l1b0Y");
         Checks.due("leader 1", x.outcome(1, 0), 0);
@@ -35,7 +38,8 @@ public final class OutcomeTest {
     }
 
     private static void wrongInputs() {
-        PaxosCommit x = new PaxosCommit(1);
+        Checks.about("outcome: nothing: IllegalStateException");
+        Run x = new Run(1);
         int[][] wrong = {{-1, 0}, {2, 0}, {0, -1}, {0, 8}, {2, 7}};
         for (int[] w : wrong) {
             Checks.dueThrow("range", Checks.ARGUMENT, () -> x.outcome(w[0], w[1]));

@@ -10,12 +10,15 @@ public final class RandomRunsTest {
     private final int[] thrown = new int[15];
     private int commits = 0;
     private int aborts = 0;
+    private int overflows = 0;
 
     private Random random;
     private PaxosCommit program;
     private PlainModel model;
     private int faults;
     private int transactions;
+    /** In a crowded run messages are doubled until the net is full. */
+    private boolean crowded;
     private int index;
     private StringBuilder story;
 
@@ -39,6 +42,7 @@ public final class RandomRunsTest {
         model = new PlainModel(f);
         faults = random.nextInt(5) == 0 ? 0 : random.nextInt(25);
         transactions = 1 + random.nextInt(8);
+        crowded = random.nextInt(3) == 0;
         story = new StringBuilder("new(" + f + ")");
         for (int i = 0; i < CALLS; i++) {
             int kind = pickKind();
@@ -48,11 +52,18 @@ public final class RandomRunsTest {
             }
         }
         Checks.due("run " + run, 0, 0);
-        for (int t = 0; t < program.count(2); t++) {
-            String known = Checks.known(program, 0, t);
-            commits += known.equals("Y") ? 1 : 0;
-            aborts += known.equals("N") ? 1 : 0;
+        tally();
+    }
+
+    /** By the model, since the program's object has had all of its calls. */
+    private void tally() {
+        for (int t = 0; t < model.count(2); t++) {
+            int transaction = t;
+            String known = answerOf(() -> "" + model.outcome(0, transaction));
+            commits += known.equals("0") ? 1 : 0;
+            aborts += known.equals("1") ? 1 : 0;
         }
+        overflows += model.count(1) > 0 ? 1 : 0;
     }
 
     /** Mostly what moves messages, so that runs get far; faults as often as the run has them. */
@@ -82,7 +93,7 @@ public final class RandomRunsTest {
 
     private int message() {
         int size = model.count(0);
-        if (size > 50 && random.nextBoolean()) {
+        if (size > 50 && !crowded && random.nextBoolean()) {
             return size - 1;
         }
         return size == 0 || random.nextInt(100) == 0 ? near(60) : random.nextInt(size);
@@ -117,7 +128,7 @@ public final class RandomRunsTest {
                 return same("take(" + l + "," + t + ")",
                     () -> "" + program.take(l, t), () -> "" + model.take(l, t));
             case 5:
-                boolean stays = yes && model.count(0) < 45;
+                boolean stays = crowded ? random.nextInt(10) > 0 : yes && model.count(0) < 45;
                 return same("deliver(" + i + "," + stays + ")",
                     () -> "" + program.deliver(i, stays), () -> "" + model.deliver(i, stays));
             case 6:
@@ -195,5 +206,6 @@ public final class RandomRunsTest {
         }
         Checks.due("commits were many", commits > 1000, true);
         Checks.due("aborts were many", aborts > 1000, true);
+        Checks.due("the net was full often", overflows > 500, true);
     }
 }

@@ -8,7 +8,8 @@ public final class TakenTest {
     }
 
     private static void ofVotes() {
-        PaxosCommit x = Checks.requested(1, 2);
+        Checks.about("taken: 2 times the BALLOT that it has TAKEN, plus 1 for YES, -1 for nothing");
+        Run x = Checks.requested(1, 2);
         Checks.bring(x, "Pt0s0");
         x.refuse(0, 1);
         Checks.bring(x, "Vt0s0a1b0Y", "Vt0s1a1b0N");
@@ -28,7 +29,8 @@ public final class TakenTest {
     }
 
     private static void ofAsks() {
-        PaxosCommit x = Checks.closed(0, 2);
+        Checks.about("taken: promised: the BALLOT that it PROMISED");
+        Run x = Checks.closed(0, 2);
         x.begin();
         x.take(0, 0);
         Checks.bring(x, "At0a0b2");
@@ -42,14 +44,15 @@ public final class TakenTest {
     }
 
     private static void wrongInputs() {
-        PaxosCommit x = new PaxosCommit(1);
+        Checks.about("taken: IllegalArgumentException, then NoSuchElementException");
+        Run x = new Run(1);
         int[][] wrong = {{-1, 0, 0}, {3, 0, 0}, {0, -1, 0}, {0, 8, 0}, {0, 0, -1}, {0, 0, 3}};
         for (int[] w : wrong) {
             Checks.dueThrow("range", Checks.ARGUMENT, () -> x.taken(w[0], w[1], w[2], true));
             Checks.dueThrow("range", Checks.ARGUMENT, () -> x.taken(w[0], w[1], w[2], false));
         }
         Checks.dueThrow("no such", Checks.NO_SUCH, () -> x.taken(2, 0, 2, true));
-        PaxosCommit y = new PaxosCommit(0);
+        Run y = new Run(0);
         Checks.dueThrow("one alone", Checks.ARGUMENT, () -> y.taken(1, 0, 0, true));
         y.begin();
         Checks.dueThrow("one alone", Checks.ARGUMENT, () -> y.taken(1, 0, 0, false));

@@ -2,6 +2,7 @@
 public final class UpTest {
     public static void main(String[] args) {
         answersWhatWas();
+        downTwiceAndUpTwice();
         storesLoseTheirWork();
         preparedStoresKeepTheirs();
         acceptorsForgetNothing();
@@ -11,7 +12,8 @@ public final class UpTest {
     }
 
     private static void answersWhatWas() {
-        PaxosCommit x = new PaxosCommit(1);
+        Checks.about("up: it is UP or not from now on. Answers whether it was");
+        Run x = new Run(1);
         int[] sizes = {3, 3, 2};
         for (int kind = 0; kind < 3; kind++) {
             for (int which = 0; which < sizes[kind]; which++) {
@@ -25,8 +27,31 @@ public final class UpTest {
         }
     }
 
+    private static void downTwiceAndUpTwice() {
+        Checks.about("up: Answers whether it was (as it is told to be already)");
+        Run x = Checks.requested(0, 1);
+        Checks.settle(x);
+        x.begin();
+        x.write(1, 0, 1, 5);
+        String before = x.all();
+        for (int kind = 0; kind < 3; kind++) {
+            Checks.due("was up", x.up(kind, 0, true), true);
+        }
+        Checks.due("all is as before", x.all(), before);
+        for (int kind = 0; kind < 3; kind++) {
+            Checks.due("was up", x.up(kind, 0, false), true);
+        }
+        String down = x.all();
+        for (int kind = 0; kind < 3; kind++) {
+            Checks.due("was not", x.up(kind, 0, false), false);
+        }
+        Checks.due("all is as it was down", x.all(), down);
+    }
+
     private static void storesLoseTheirWork() {
-        PaxosCommit x = Checks.begun(1, 2);
+        Checks.about("up: A STORE that is not UP any more is ABORTED for all TRANSACTIONS for"
+            + " which it is WORKING");
+        Run x = Checks.begun(1, 2);
         x.begin();
         x.write(1, 0, 1, 1);
         x.begin();
@@ -47,7 +72,8 @@ public final class UpTest {
     }
 
     private static void preparedStoresKeepTheirs() {
-        PaxosCommit x = Checks.requested(0, 2);
+        Checks.about("up: A STORE that is not UP any more (and PREPARED or COMMITTED)");
+        Run x = Checks.requested(0, 2);
         Checks.bring(x, "Pt0s0");
         x.up(Checks.STORE, 0, false);
         Checks.due("prepared", x.state(0, 0), 2);
@@ -62,7 +88,8 @@ public final class UpTest {
     }
 
     private static void acceptorsForgetNothing() {
-        PaxosCommit x = Checks.requested(1, 1);
+        Checks.about("up: ACCEPTORS forget nothing");
+        Run x = Checks.requested(1, 1);
         Checks.bring(x, "Pt0s0", "Vt0s0a1b0Y");
         x.take(1, 0);
         Checks.bring(x, "At0a1b1");
@@ -75,23 +102,25 @@ public final class UpTest {
     }
 
     private static void leadersForget() {
-        PaxosCommit x = Checks.requested(1, 1);
+        Checks.about("up: A LEADER that is not UP any more forgets all it has of TRANSACTIONS");
+        Run x = Checks.requested(1, 1);
         Checks.bring(x, "Pt0s0", "Vt0s0a0b0Y", "Vt0s0a1b0Y", "Vt0s0a2b0Y");
         Checks.bring(x, "Tt0s0a0l0b0Y");
         x.up(Checks.LEADER, 0, false);
         x.up(Checks.LEADER, 0, true);
         Checks.bring(x, "Tt0s0a1l0b0Y");
-        Checks.due("the first is forgotten", Checks.known(x, 0, 0), "-");
+        Checks.due("the first is forgotten", x.known(0, 0), "-");
         Checks.bring(x, "Tt0s0a2l0b0Y");
-        Checks.due("two again", Checks.known(x, 0, 0), "Y");
+        Checks.due("two again", x.known(0, 0), "Y");
         x.up(Checks.LEADER, 0, false);
-        Checks.due("the outcome is forgotten", Checks.known(x, 0, 0), "-");
+        Checks.due("the outcome is forgotten", x.known(0, 0), "-");
         forgottenBallotsCountAsProposed();
         theOtherLeaderForgetsNothing();
     }
 
     private static void forgottenBallotsCountAsProposed() {
-        PaxosCommit x = Checks.closed(1, 1);
+        Checks.about("up: but its BALLOTS, in which it counts as having PROPOSED");
+        Run x = Checks.closed(1, 1);
         x.take(0, 0);
         Checks.bring(x, "At0a0b2", "At0a1b2", "At0a2b2", "Rt0a0l0b2---");
         x.up(Checks.LEADER, 0, false);
@@ -105,17 +134,19 @@ public final class UpTest {
     }
 
     private static void theOtherLeaderForgetsNothing() {
-        PaxosCommit x = Checks.requested(0, 1);
+        Checks.about("up: A LEADER (the other one forgets nothing)");
+        Run x = Checks.requested(0, 1);
         Checks.settle(x);
         x.up(Checks.LEADER, 1, false);
-        Checks.due("leader 0", Checks.known(x, 0, 0), "Y");
-        Checks.due("leader 1", Checks.known(x, 1, 0), "-");
+        Checks.due("leader 0", x.known(0, 0), "Y");
+        Checks.due("leader 1", x.known(1, 0), "-");
     }
 
     private static void wrongInputs() {
+        Checks.about("up: kind 0 a STORE 0 .. 2, 1 an ACCEPTOR 0 .. n - 1, 2 a LEADER 0, 1");
         int[][] wrong = {{-1, 0}, {3, 0}, {0, -1}, {0, 3}, {1, -1}, {1, 3}, {2, -1}, {2, 2}};
-        PaxosCommit x = new PaxosCommit(1);
-        PaxosCommit y = new PaxosCommit(0);
+        Run x = new Run(1);
+        Run y = new Run(0);
         for (int[] w : wrong) {
             Checks.dueThrow("range", Checks.ARGUMENT, () -> x.up(w[0], w[1], false) ? 1 : 0);
             Checks.dueThrow("range", Checks.ARGUMENT, () -> y.up(w[0], w[1], true) ? 1 : 0);

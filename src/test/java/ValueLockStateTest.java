@@ -4,12 +4,15 @@ public final class ValueLockStateTest {
         commitShowsValues();
         abortShowsNone();
         laterCommitsOverwrite();
+        lockOfTransactionZero();
         wrongInputs();
         Checks.end();
     }
 
     private static void commitShowsValues() {
-        PaxosCommit x = Checks.begun(1, 2);
+        Checks.about("value, lock, state: The VALUE of a KEY; The TRANSACTION that has the LOCK"
+            + " of a KEY, -1 if none; The STATE of a STORE for a TRANSACTION");
+        Run x = Checks.begun(1, 2);
         x.write(0, 1, 3, -4);
         Checks.due("state", x.state(0, 1), 1);
         x.request(0);
@@ -32,7 +35,8 @@ public final class ValueLockStateTest {
     }
 
     private static void abortShowsNone() {
-        PaxosCommit x = Checks.begun(1, 2);
+        Checks.about("value: The VALUE of a KEY (of one that was written in vain)");
+        Run x = Checks.begun(1, 2);
         x.request(0);
         x.refuse(0, 1);
         Checks.settle(x);
@@ -44,7 +48,8 @@ public final class ValueLockStateTest {
     }
 
     private static void laterCommitsOverwrite() {
-        PaxosCommit x = Checks.requested(0, 1);
+        Checks.about("value: The VALUE of a KEY (written twice)");
+        Run x = Checks.requested(0, 1);
         Checks.settle(x);
         x.begin();
         x.write(1, 0, 0, 99);
@@ -65,8 +70,25 @@ public final class ValueLockStateTest {
         Checks.due("value of a store that is down", x.value(0, 0), 99);
     }
 
+    private static void lockOfTransactionZero() {
+        Checks.about("lock: The TRANSACTION that has the LOCK of a KEY, -1 if none");
+        Run x = new Run(1);
+        for (int t = 0; t < 8; t++) {
+            x.begin();
+        }
+        Checks.due("none", x.lock(1, 0), -1);
+        x.write(0, 1, 0, 5);
+        x.write(7, 1, 3, 5);
+        Checks.due("the first", x.lock(1, 0), 0);
+        Checks.due("the last", x.lock(1, 3), 7);
+        x.refuse(0, 1);
+        Checks.due("none again", x.lock(1, 0), -1);
+        Checks.due("the last", x.lock(1, 3), 7);
+    }
+
     private static void wrongInputs() {
-        PaxosCommit x = new PaxosCommit(1);
+        Checks.about("value, lock, state: IllegalArgumentException, then NoSuchElementException");
+        Run x = new Run(1);
         int[][] wrong = {{-1, 0}, {3, 0}, {0, -1}, {0, 4}};
         for (int[] w : wrong) {
             Checks.dueThrow("value", Checks.ARGUMENT, () -> x.value(w[0], w[1]));
