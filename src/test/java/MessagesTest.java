@@ -13,6 +13,8 @@ public final class MessagesTest {
         proposesOnce();
         doubledReplyIsOne();
         voteBelowThePromise();
+        voteAboveThePromise();
+        toldToBothLeaders();
         toldOfALesserBallot();
         decidedNeedsOneBallot();
         commitNeedsAllMembers();
@@ -205,6 +207,35 @@ public final class MessagesTest {
         Checks.due("as promised", x.taken(0, 0, 0, false), 2);
         Checks.bring(x, "Vt0s0a2b1N", "Vt0s0a2b0Y");
         Checks.due("above and then below", x.taken(2, 0, 0, false), 2);
+    }
+
+    private static void voteAboveThePromise() {
+        Checks.about("V VOTE: b is PROMISED, and that is TAKEN (for that STORE alone, without an"
+            + " ASK)");
+        Run x = Checks.closed(1, 2);
+        x.take(1, 0);
+        Checks.bring(x, "At0a0b1", "At0a1b1", "Rt0a0l1b1---", "Rt0a1l1b1---", "Vt0s1a2b1N");
+        Checks.due("promised", x.taken(2, 0, 1, true), 1);
+        Checks.due("taken", x.taken(2, 0, 1, false), 2);
+        Checks.due("not for the other store", x.taken(2, 0, 0, true), 0);
+        Checks.due("not for the other store", x.taken(2, 0, 0, false), -1);
+        x.refuse(0, 0);
+        Checks.bring(x, "Vt0s0a2b0N");
+        Checks.due("ballot 0 is taken there yet", x.taken(2, 0, 0, false), 0);
+        Checks.bring(x, "Vt0s0a2b1N");
+        Checks.due("and 1 above it", x.taken(2, 0, 0, false), 2);
+    }
+
+    private static void toldToBothLeaders() {
+        Checks.about("V VOTE: a TOLD of it is sent to both LEADERS (LEADER 0 first)");
+        Run x = Checks.begun(1, 1);
+        x.refuse(0, 0);
+        Checks.bringTwin(x, "Vt0s0a1b0N");
+        Checks.due("two", Checks.net(x),
+            "Vt0s0a0b0N Vt0s0a1b0N Vt0s0a2b0N Tt0s0a1l0b0N Tt0s0a1l1b0N");
+        Checks.bring(x, "Vt0s0a1b0N");
+        Checks.due("two again for one that is doubled", Checks.net(x),
+            "Vt0s0a0b0N Vt0s0a2b0N Tt0s0a1l0b0N Tt0s0a1l1b0N Tt0s0a1l0b0N Tt0s0a1l1b0N");
     }
 
     /** Acceptor 0 tells ballot 0 and then 1; the leader hears them the other way round. */
